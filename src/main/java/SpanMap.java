@@ -306,7 +306,14 @@ public final class SpanMap {
             return NONE;
         }
         acts.save(world);
-        int done = runClauses();
+        int done = 0;
+        for (int i = 0; i < tape.clauses && refusedClause == NONE; i++) {
+            if (runClause(tape.verbs[i], tape.numberOf(i, 0), tape.numberOf(i, 1), tape.numberOf(i, 2))) {
+                done++;
+            } else {
+                refusedClause = i;
+            }
+        }
         if (done > 0) {
             acts.keep();
         }
@@ -631,16 +638,6 @@ public final class SpanMap {
         imageLedger.copyFrom(ledger, world.map.epoch);
     }
 
-    private int runClauses() {
-        for (int i = 0; i < tape.clauses; i++) {
-            if (!runClause(tape.verbs[i], tape.numberOf(i, 0), tape.numberOf(i, 1), tape.numberOf(i, 2))) {
-                refusedClause = i;
-                return i;
-            }
-        }
-        return tape.clauses;
-    }
-
     private boolean runClause(int verb, int a, int b, int c) {
         switch (verb) {
             case VERB_FETCH: return asking.takeMap(a) != NONE;
@@ -823,6 +820,15 @@ public final class SpanMap {
         void dropFromTrail(int n) {
             System.arraycopy(trail, n, trail, 0, trailed - n);
             trailed -= n;
+        }
+
+        /** Whether the STEP that is being taken is the one TOLD to fail. */
+        boolean countDown() {
+            if (told == 0) {
+                return false;
+            }
+            told--;
+            return told == 0;
         }
 
         void breakBy(int newCause) {
@@ -1376,45 +1382,37 @@ public final class SpanMap {
         private void takeOne(Move m) {
             m.steps++;
             ledger.add(COUNT_STEPS, 1);
-            boolean fails = m.told == 1;
-            if (m.told > 0) {
-                m.told--;
+            boolean fails = m.countDown();
+            int most = fails ? world.chunk / 2 : world.chunk;
+            int done = 0;
+            switch (m.stage) {
+                case COPY: done = copySome(m, most); break;
+                case CATCH_UP: catchUpSome(m, most); break;
+                case SWITCHED: done = cleanSome(m, most); break;
+                default: break;
             }
             if (fails) {
-                doPart(m, world.chunk / 2);
                 m.breakBy(STEP_FAILED);
                 ledger.add(COUNT_FAILED, 1);
             } else {
-                doWhole(m);
+                goFurther(m, done < most);
             }
         }
 
-        private void doWhole(Move m) {
+        private void goFurther(Move m, boolean keysAtEnd) {
             if (m.stage == FROZEN) {
                 switchOwner(m);
-                return;
-            }
-            int done = doPart(m, world.chunk);
-            if (m.stage == CATCH_UP) {
+            } else if (m.stage == CATCH_UP) {
                 if (m.trailed == 0) {
                     m.stage = FROZEN;
                 }
-            } else if (done < world.chunk) {
+            } else if (keysAtEnd) {
                 m.cursor = m.end;
                 if (m.stage == COPY) {
                     m.stage = CATCH_UP;
                 } else {
                     endAs(m, DONE);
                 }
-            }
-        }
-
-        private int doPart(Move m, int most) {
-            switch (m.stage) {
-                case COPY: return copySome(m, most);
-                case CATCH_UP: return catchUpSome(m, most);
-                case SWITCHED: return cleanSome(m, most);
-                default: return 0;
             }
         }
 
@@ -1432,14 +1430,13 @@ public final class SpanMap {
             return done;
         }
 
-        private int catchUpSome(Move m, int most) {
+        private void catchUpSome(Move m, int most) {
             int done = Math.min(most, m.trailed);
             for (int i = 0; i < done; i++) {
                 world.putValue(m.to, m.trail[i], world.valueOf(m.from, m.trail[i]));
             }
             m.dropFromTrail(done);
             ledger.add(COUNT_COPIED, done);
-            return done;
         }
 
         private int cleanSome(Move m, int most) {
@@ -1531,7 +1528,7 @@ public final class SpanMap {
 
         int stepsLeft(Move m) {
             // A step that finds its whole CHUNK can't know that none is behind it.
-            int chunk = world.chunk;
+            int chunk = Math.max(1, world.chunk);
             int clean = world.valuesIn(m.from, m.stage == SWITCHED ? m.cursor : m.low, m.end) / chunk + 1;
             if (m.stage == SWITCHED) {
                 return clean;
