@@ -465,14 +465,10 @@ public final class SpanMap {
     }
 
     public int passed(int key, int i) {
-        if (!isKey(key) || i < 0 || i >= MAX_MOVES) {
+        if (!isKey(key) || i < 0) {
             return NONE;
         }
-        int epoch = 0;
-        for (int n = 0; n <= i && epoch != NONE; n++) {
-            epoch = world.switchBehind(epoch, key);
-        }
-        return epoch;
+        return world.passedOn(key, i);
     }
 
     public int changeOf(int epoch, int what) {
@@ -1040,27 +1036,27 @@ public final class SpanMap {
             return true;
         }
 
-        // -- who owned what: only MOVES pass a KEY on, so they are the history
+        // -- who owned what: only MOVES pass a KEY on, and those of one KEY one
+        // behind the other, so that they are its history in the order of their numbers
 
-        /** The first EPOCH above this one by which the KEY was passed on. */
-        int switchBehind(int epoch, int key) {
-            int best = NONE;
+        int passedOn(int key, int times) {
+            int ahead = 0;
             for (int i = 0; i < moveCount; i++) {
-                Move m = moves[i];
-                if (m.covers(key) && m.epoch > epoch && (best == NONE || m.epoch < best)) {
-                    best = m.epoch;
+                if (moves[i].epoch > 0 && moves[i].covers(key)) {
+                    if (ahead == times) {
+                        return moves[i].epoch;
+                    }
+                    ahead++;
                 }
             }
-            return best;
+            return NONE;
         }
 
         int ownerAt(int epoch, int key) {
             int owner = 0;
-            int latest = 0;
             for (int i = 0; i < moveCount; i++) {
                 Move m = moves[i];
-                if (m.covers(key) && m.epoch > latest && m.epoch <= epoch) {
-                    latest = m.epoch;
+                if (m.epoch > 0 && m.epoch <= epoch && m.covers(key)) {
                     owner = m.to;
                 }
             }

@@ -191,6 +191,9 @@ public final class ChangesTest {
         due.is("passed(0, 1)", x.passed(0, 1), -1);
         due.is("passed(0, -1)", x.passed(0, -1), -1);
         due.is("passed(0, max)", x.passed(0, Integer.MAX_VALUE), -1);
+        due.is("passed(499, 0): the end is not within", x.passed(499, 0), 3);
+        due.is("passed(500, 0)", x.passed(500, 0), 4);
+        due.is("owned(3, 500)", x.owned(3, 500), 0);
         due.is("passed(1000, 0)", x.passed(1000, 0), -1);
         long[][] rows = {{0, -1, -1}, {1, 0, 0}, {3, 0, 1}, {3, 500, 3}, {3, 500, 1}, {2, 0, 1}};
         for (int epoch = 1; epoch <= 6; epoch++) {

@@ -96,6 +96,7 @@ public final class ScriptsTest {
         due.is("with blanks", Due.run(x, "   fetch   1  ;  age ;   "), 2);
         due.is("blanks alone", Due.run(x, "      "), 0);
         due.is("blanks alone are no fault", x.fault(0), 0);
+        due.is("a read of no value is done", Due.run(x, "read 0 500;read 0 501;"), 2);
         due.is("a number of 99999", Due.run(x, "write 0 13 99999;"), 1);
         due.is("stored", x.stored(0, 13), 99999);
     }

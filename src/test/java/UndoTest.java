@@ -14,6 +14,8 @@ public final class UndoTest {
         historyWrittenAnew();
         images();
         imageAgainstUndoing();
+        imageOfMoves();
+        trailsUndone();
         looks();
         due.end();
     }
@@ -336,6 +338,50 @@ public final class UndoTest {
         x.split(0, 50);
         x.image(false);
         due.is("spans", x.look(1), 3);
+    }
+
+    private static void imageOfMoves() {
+        SpanMap x = new SpanMap();
+        x.split(0, 500);
+        x.fetch(2);
+        x.image(true);
+        x.image(false);
+        x.split(0, 100);
+        x.move(500, 3);
+        x.image(true);
+        x.undo();
+        x.undo();
+        x.move(0, 4);
+        x.step(0, 2);
+        x.write(2, 600, 1);
+        x.image(false);
+        int[] want = {1, 500, 1000, 0, 3, 500, 0, 0, 0, 0, 0, 0};
+        for (int what = 0; what < want.length; what++) {
+            due.is("moveOf(0, " + what + ") of the image", x.moveOf(0, what), want[what]);
+        }
+        due.is("askings of the image", x.clientOf(2, 2) + x.clientOf(2, 3), 0);
+        due.is("span(2, 4)", x.span(2, 4), 0);
+        due.is("span(0, 4)", x.span(0, 4), -1);
+        x.read(2, 0);
+        x.image(false);
+        due.is("answered 3 of the image", x.clientOf(2, 4), 0);
+        due.is("named of the image", x.clientOf(2, 5), 0);
+    }
+
+    private static void trailsUndone() {
+        SpanMap x = filled();
+        x.move(0, 1);
+        x.step(0, 1);
+        for (int key = 40; key < 46; key++) {
+            x.write(0, key, 1);
+        }
+        x.step(0, 1);
+        due.is("trail(0, 0)", x.trail(0, 0), 44);
+        x.undo();
+        for (int i = 0; i < 6; i++) {
+            due.is("trail(0, " + i + ") again", x.trail(0, i), 40 + i);
+        }
+        due.is("trail(0, 6)", x.trail(0, 6), -1);
     }
 
     private static void looks() {

@@ -11,6 +11,7 @@ public final class WeightTest {
         nextWithFewUp();
         nextPassesMovesBy();
         rounding();
+        fortyRounds();
         emptying();
         due.end();
     }
@@ -205,6 +206,22 @@ public final class WeightTest {
             doNext(y);
         }
         due.is("even then", y.even(), 0);
+    }
+
+    private static void fortyRounds() {
+        SpanMap x = new SpanMap();
+        SpanMap y = new SpanMap();
+        x.fetch(0);
+        y.fetch(0);
+        for (int key = 0; key < 69 * 3; key += 3) {
+            x.read(0, key);
+            y.read(0, key);
+            if (key % 2 == 1) {
+                y.read(0, key);
+            }
+        }
+        due.is("forty", x.rounds(0), 40);
+        due.is("it takes one more", y.rounds(0), -1);
     }
 
     private static void doNext(SpanMap x) {
