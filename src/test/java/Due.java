@@ -10,12 +10,23 @@ final class Due {
     void is(String call, long got, long want) {
         if (got != want) {
             wrong++;
-            System.out.println(test + ": " + call + " answered " + got + ", due is " + want);
+            System.out.println(test + where() + ": " + call + " answered " + got + ", due is " + want);
         }
     }
 
     void is(String call, boolean got, boolean want) {
         is(call, got ? 1 : 0, want ? 1 : 0);
+    }
+
+    /** The method and line of the test that asked, so that its remark is found. */
+    private String where() {
+        String found = "";
+        for (StackTraceElement at : new Throwable().getStackTrace()) {
+            if (at.getClassName().equals(test) && !at.getMethodName().equals("main")) {
+                found = "." + at.getMethodName() + ", line " + at.getLineNumber();
+            }
+        }
+        return found;
     }
 
     void end() {
