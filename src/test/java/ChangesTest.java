@@ -10,7 +10,6 @@ public final class ChangesTest {
         joining();
         spans();
         history();
-        manyEpochs();
         due.end();
     }
 
@@ -205,19 +204,5 @@ public final class ChangesTest {
         due.is("changeOf(7, 0)", x.changeOf(7, 0), -1);
         due.is("changeOf(2, 3)", x.changeOf(2, 3), -1);
         due.is("changeOf(2, -1)", x.changeOf(2, -1), -1);
-    }
-
-    /** As many changes as 512 calls can make by scripts. */
-    private static void manyEpochs() {
-        SpanMap x = new SpanMap();
-        String text = "split0 5;join0;".repeat(20);
-        for (int i = 0; i < 31; i++) {
-            due.is("script", Due.run(x, text), 40);
-        }
-        due.is("epoch", x.look(0), 1 + 31 * 40);
-        for (int epoch = 2; epoch <= x.look(0); epoch++) {
-            due.is("changeOf(" + epoch + ", 0)", x.changeOf(epoch, 0), 1 + epoch % 2);
-        }
-        due.is("owned", x.owned(x.look(0), 999), 0);
     }
 }

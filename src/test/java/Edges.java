@@ -130,6 +130,13 @@ final class Edges {
         return x;
     }
 
+    /** What moveOf() answers for what 0, 1, .. */
+    void moveIs(SpanMap x, int move, int... want) {
+        for (int what = 0; what < want.length; what++) {
+            due.is("moveOf(" + move + ", " + what + ")", x.moveOf(move, what), want[what]);
+        }
+    }
+
     // ---- pictures
 
     /** The call has this answer, and changes nothing that can be asked then or behind undo(), image(false), script(). */

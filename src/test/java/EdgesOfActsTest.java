@@ -17,6 +17,7 @@ public final class EdgesOfActsTest {
         theSeventhFallsOut();
         actsBehindUndo();
         undoneMovesLeaveNothing();
+        movesUndoneWithAScript();
         undoneChangesLeaveNothing();
         whatIsCountedStays();
         theTapeStays();
@@ -33,6 +34,7 @@ public final class EdgesOfActsTest {
         imageAndActs();
         imageHasWhatIsCounted();
         imageHasEachStage();
+        imageOfWhatWasTakenAnew();
         due.end();
     }
 
@@ -240,11 +242,31 @@ public final class EdgesOfActsTest {
         due.is("passed(0, 0)", x.passed(0, 0), -1);
         due.is("server(3, 4)", x.server(3, 4), 0);
         due.is("move(200, 2)", x.move(200, 2), 1);
-        int[] want = {1, 200, 1000, 0, 2, 200, 0, 0, 0, 0, 0, 0};
-        for (int what = 0; what < want.length; what++) {
-            due.is("moveOf(1, " + what + ")", x.moveOf(1, what), want[what]);
-        }
+        edges.moveIs(x, 1, 1, 200, 1000, 0, 2, 200, 0, 0, 0, 0, 0, 0);
         due.is("moveOf(0, 6) stays", x.moveOf(0, 6), 1);
+        x = new SpanMap();
+        x.move(0, 1);
+        x.undo();
+        due.is("down(1), no move is there to be broken", x.down(1), 0);
+        due.is("look(5)", x.look(5), 0);
+    }
+
+    /** Terms 4: "all is as ahead of it": a whole MOVE undone with its script, in another's place. */
+    private static void movesUndoneWithAScript() {
+        String[] texts = {"fetch 0;move 0 3;write 0 5 1;fail 0 7;step 0 1;", "fetch 0;move 0 3;write 0 5 1;fail 0 1;step 0 1;",
+            "move 0 3;step 0 100;", "move 0 3;step 0 2;down 3;"};
+        for (String text : texts) {
+            SpanMap x = new SpanMap();
+            x.split(0, 500);
+            due.is("script()", Due.run(x, text), text.split(";").length);
+            x.undo();
+            due.is("moveOf(0, 0)", x.moveOf(0, 0), -1);
+            due.is("look(5)", x.look(5), 0);
+            due.is("move(500, 2)", x.move(500, 2), 0);
+            edges.moveIs(x, 0, 1, 500, 1000, 0, 2, 500, 0, 0, 0, 0, 0, 0);
+            due.is("trail(0, 0)", x.trail(0, 0), -1);
+            due.is("step(0, 100)", x.step(0, 100), 5);
+        }
     }
 
     /** Terms 4: "all is as ahead of it": CHANGES and EPOCHS that are undone are none, and come anew. */
@@ -319,7 +341,7 @@ public final class EdgesOfActsTest {
 
     /** Terms 4: "Whatever else is done by a call (..) forgets them", each such call at the edge of not being refused. */
     private static void whatForgets() {
-        Act[] calls = {x -> x.fetch(0), x -> x.fetch(5), x -> x.read(1, 99), x -> x.read(1, 5), x -> x.write(1, 5, 1),
+        Act[] calls = {x -> x.fetch(0), x -> x.fetch(5), x -> x.read(1, 99), x -> x.read(1, 98), x -> x.write(1, 5, 1),
             x -> x.write(1, 5, 99999), x -> x.insist(1, 5, 1), x -> x.insist(0, 300, 1), x -> Edges.n(x.fail(1, 0)),
             x -> Edges.n(x.fail(1, 99)), x -> Edges.n(x.fail(2, 1)), x -> x.down(0), x -> x.down(4), x -> Edges.n(x.up(5)),
             x -> Edges.n(x.chunk(1)), x -> Edges.n(x.chunk(4)), x -> Edges.n(x.chunk(16)), x -> x.scan(1, 5, 5),
@@ -544,6 +566,47 @@ public final class EdgesOfActsTest {
         due.is("changeOf(2, 0)", x.changeOf(2, 0), -1);
         due.is("stored(0, 5)", x.stored(0, 5), 0);
         due.is("hot(0, 0)", x.hot(0, 0), -1);
+    }
+
+    /** Terms 4: THE IMAGE is "as it was when it was taken", though other MOVES and CHANGES had these numbers meanwhile. */
+    private static void imageOfWhatWasTakenAnew() {
+        SpanMap x = new SpanMap();
+        x.split(0, 100);
+        x.split(100, 200);
+        x.move(100, 4);
+        x.image(true);
+        x.undo();
+        x.undo();
+        x.undo();
+        x.split(0, 700);
+        x.join(0);
+        x.move(0, 5);
+        x.fetch(0);
+        x.write(0, 3, 3);
+        x.step(0, 2);
+        x.image(false);
+        int[][] changes = {{0, -1, -1}, {1, 0, 0}, {1, 100, 0}};
+        for (int epoch = 1; epoch <= 3; epoch++) {
+            for (int what = 0; what < 3; what++) {
+                due.is("changeOf(" + epoch + ", " + what + ")", x.changeOf(epoch, what), changes[epoch - 1][what]);
+            }
+        }
+        edges.moveIs(x, 0, 1, 100, 200, 0, 4, 100, 0, 0, 0, 0, 0, 0);
+        due.is("span(1, 4)", x.span(1, 4), 0);
+        due.is("step(0, 100)", x.step(0, 100), 5);
+        due.is("owned(4, 150)", x.owned(4, 150), 4);
+        due.is("owned(4, 99)", x.owned(4, 99), 0);
+        x = Edges.made(Edges.moving(4, false));
+        x.step(0, 100);
+        x.move(100, 5);
+        x.image(true);
+        x.undo();
+        x.move(0, 2);
+        x.image(false);
+        edges.moveIs(x, 1, 1, 100, 200, 1, 5, 100, 0, 0, 0, 0, 0, 0);
+        due.is("step(1, 100)", x.step(1, 100), 5);
+        due.is("server(5, 2)", x.server(5, 2), 5);
+        due.is("server(1, 2)", x.server(1, 2), 0);
     }
 
     /** Terms 4: "an image from which all goes on": a MOVE in each STAGE goes on from it as it would have. */

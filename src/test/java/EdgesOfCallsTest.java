@@ -31,6 +31,7 @@ public final class EdgesOfCallsTest {
         end();
         script();
         fault();
+        the512thCall();
         due.end();
     }
 
@@ -478,5 +479,37 @@ public final class EdgesOfCallsTest {
         }
         Due.type(x, "age;");
         due.is("fault(0), of the latest script()", x.fault(0), 1);
+    }
+
+    /** What it is: "used for at most 512 calls": the last of them is answered as the first, behind as many CHANGES as can be. */
+    private static void the512thCall() {
+        SpanMap x = new SpanMap();
+        String text = "split0 1;join0;".repeat(20);
+        int calls = 0;
+        for (int scripts = 1; scripts <= 31; scripts++) {
+            for (int at = 0; at < text.length(); at += 20) {
+                x.feed(Due.four(text, at), Due.four(text, at + 4), Due.four(text, at + 8), Due.four(text, at + 12), Due.four(text, at + 16));
+                calls++;
+            }
+            due.is("script()", x.script(), 40);
+            calls++;
+        }
+        due.is("calls", calls, 496);
+        due.is("look(0)", x.look(0), 1241);
+        due.is("changeOf(1241, 0)", x.changeOf(1241, 0), 2);
+        due.is("changeOf(1240, 0)", x.changeOf(1240, 0), 1);
+        due.is("changeOf(1242, 0)", x.changeOf(1242, 0), -1);
+        due.is("changeOf(2, 0)", x.changeOf(2, 0), 1);
+        due.is("changeOf(1, 0)", x.changeOf(1, 0), 0);
+        due.is("owned(1241, 999)", x.owned(1241, 999), 0);
+        due.is("move(0, 5)", x.move(0, 5), 0);
+        due.is("step(0, 100)", x.step(0, 100), 5);
+        due.is("owned(1242, 0)", x.owned(1242, 0), 5);
+        due.is("owned(1241, 0)", x.owned(1241, 0), 0);
+        due.is("passed(999, 0)", x.passed(999, 0), 1242);
+        due.is("span(0, 3)", x.span(0, 3), 1242);
+        due.is("undo()", x.undo(), 5);
+        due.is("undo()", x.undo(), 4);
+        due.is("look(0), the 512th", x.look(0), 1241);
     }
 }

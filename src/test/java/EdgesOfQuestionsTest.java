@@ -266,20 +266,14 @@ public final class EdgesOfQuestionsTest {
     private static void moveOfEnded() {
         SpanMap x = Edges.made(Edges.moving(4, false));
         x.step(0, 100);
-        int[] done = {5, 100, 200, 0, 1, 200, 0, 0, 0, 6, 0, 4};
-        for (int what = 0; what < 12; what++) {
-            due.is("moveOf(0, " + what + "), done", x.moveOf(0, what), done[what]);
-        }
+        edges.moveIs(x, 0, 5, 100, 200, 0, 1, 200, 0, 0, 0, 6, 0, 4);
         x.split(100, 110);
         x.join(0);
         due.is("moveOf(0, 1): its span as it was", x.moveOf(0, 1), 100);
         due.is("moveOf(0, 2): its span as it was", x.moveOf(0, 2), 200);
         x = Edges.made(Edges.moving(3, true));
         x.recover(0);
-        int[] undone = {6, 100, 200, 0, 1, 200, 0, 0, 3, 4, 0, 0};
-        for (int what = 0; what < 12; what++) {
-            due.is("moveOf(0, " + what + "), undone", x.moveOf(0, what), undone[what]);
-        }
+        edges.moveIs(x, 0, 6, 100, 200, 0, 1, 200, 0, 0, 3, 4, 0, 0);
     }
 
     /** Promise 32: "NONE if there is none such." */

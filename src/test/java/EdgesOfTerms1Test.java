@@ -180,6 +180,10 @@ public final class EdgesOfTerms1Test {
         edges.refused(full, -1, "split(31, 40)", y -> y.split(31, 40));
         edges.refused(full, -1, "split(31, 999)", y -> y.split(31, 999));
         edges.refused(full, -1, "middle(31)", y -> y.middle(31));
+        edges.refused(full, -1, "split(500, 600), no such low", y -> y.split(500, 600));
+        edges.refused(full, -1, "middle(32), no such low", y -> y.middle(32));
+        edges.refused(full, -1, "join(500), no such low", y -> y.join(500));
+        edges.refused(full, -1, "move(500, 1), no such low", y -> y.move(500, 1));
         x = Edges.made(full);
         due.is("middleOf(31) is there", x.middleOf(31), 991);
         due.is("span(31, 0)", x.span(31, 0), 31);

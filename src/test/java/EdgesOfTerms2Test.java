@@ -8,6 +8,7 @@ public final class EdgesOfTerms2Test {
         splitWithin();
         splitOfOneKey();
         joinOfTheLast();
+        joinTakesALowAway();
         joinOfTwoOwners();
         noChangeWhileAMoveGoesOn();
         changesBehindAMove();
@@ -114,6 +115,21 @@ public final class EdgesOfTerms2Test {
         due.is("span(30, 1)", x.span(30, 1), 1000);
         due.is("span(29, 1)", x.span(29, 1), 30);
         due.is("span(31, 0)", x.span(31, 0), -1);
+    }
+
+    /** Terms 2: "JOINED: .. one SPAN": the LOW of the next one names no SPAN any more. */
+    private static void joinTakesALowAway() {
+        Edges.Run joined = x -> {
+            x.fetch(0);
+            x.write(0, 700, 1);
+            x.split(0, 500);
+            x.join(0);
+        };
+        edges.refused(joined, -1, "split(500, 600)", x -> x.split(500, 600));
+        edges.refused(joined, -1, "middle(500)", x -> x.middle(500));
+        edges.refused(joined, -1, "join(500)", x -> x.join(500));
+        edges.refused(joined, -1, "move(500, 1)", x -> x.move(500, 1));
+        due.is("split(0, 500)", Edges.made(joined).split(0, 500), 4);
     }
 
     /** Terms 2: "JOINED: .. of one OWNER". */
@@ -324,6 +340,7 @@ public final class EdgesOfTerms2Test {
         });
         edges.refused(twelve, -1, "move(500, 1), the 13th", y -> y.move(500, 1));
         edges.refused(twelve, -1, "move(0, 2), the 13th", y -> y.move(0, 2));
+        due.is("down(1), twelve there are, and none goes on", Edges.made(twelve).down(1), 0);
         x = Edges.made(twelve);
         due.is("split", x.split(500, 600), 4);
         due.is("undo()", x.undo(), 5);
@@ -396,10 +413,7 @@ public final class EdgesOfTerms2Test {
         x.fetch(0);
         x.write(0, 999, 1);
         x.move(999, 4);
-        int[] want = {1, 999, 1000, 0, 4, 999, 0, 0, 0, 0, 0, 0};
-        for (int what = 0; what < want.length; what++) {
-            due.is("moveOf(0, " + what + ")", x.moveOf(0, what), want[what]);
-        }
+        edges.moveIs(x, 0, 1, 999, 1000, 0, 4, 999, 0, 0, 0, 0, 0, 0);
         due.is("trail(0, 0)", x.trail(0, 0), -1);
         due.is("values of TO", x.server(4, 2), 0);
         due.is("span(1, 5)", x.span(1, 5), 0);
@@ -407,10 +421,7 @@ public final class EdgesOfTerms2Test {
         x.undo();
         x.undo();
         x.move(0, 2);
-        int[] anew = {1, 0, 999, 0, 2, 0, 0, 0, 0, 0, 0, 0};
-        for (int what = 0; what < anew.length; what++) {
-            due.is("moveOf(0, " + what + ") of another in its place", x.moveOf(0, what), anew[what]);
-        }
+        edges.moveIs(x, 0, 1, 0, 999, 0, 2, 0, 0, 0, 0, 0, 0, 0);
     }
 
     /** Terms 2: "WRITES done in its SPAN": from its LOW to the KEY ahead of its end. */

@@ -23,6 +23,7 @@ public final class EdgesOfTerms3Test {
         nextWith32Spans();
         roundsTillEven();
         roundsTillNothing();
+        roundsPassMovesBy();
         atMostFortyRounds();
         emptiedByWeight();
         emptiedOfSeveralAlike();
@@ -355,6 +356,21 @@ public final class EdgesOfTerms3Test {
         due.is("rounds(0): one move, then EVEN is 0", x.rounds(0), 1);
         due.is("rounds(3)", x.rounds(3), 1);
         due.is("rounds(4)", x.rounds(4), 0);
+    }
+
+    /** Terms 3: ROUNDS: SPANS with a MOVE stay aside in all of them, also behind one that is SPLIT in thought. */
+    private static void roundsPassMovesBy() {
+        SpanMap x = loads(2, 0, 0, 1, 0, 0, 0);
+        x.move(10, 1);
+        for (int times = 0; times < 3; times++) {
+            x.read(0, 2);
+            x.read(0, 5);
+        }
+        due.is("weight(0), 3 at 2 and 3 at 5", x.weight(0), 6);
+        // 6 goes to 1; there it is split at 3; one half goes back: 4 and 3; 1 can't go, it moves already.
+        due.is("rounds(0)", x.rounds(0), 3);
+        x.give(0);
+        due.is("rounds(0), it moves no more: it is split in vain", x.rounds(0), 4);
     }
 
     /** Terms 3: ROUNDS "at most 40": 40 are told, of more NONE. */

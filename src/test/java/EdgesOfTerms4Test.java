@@ -21,6 +21,7 @@ public final class EdgesOfTerms4Test {
         blanksAheadOfAll();
         noOtherBlanks();
         endWhereSomethingIsDue();
+        whatWasTakenFromTheTape();
         whatCannotStandThere();
         numberAbove99999();
         theFirstByItsPlace();
@@ -240,6 +241,9 @@ public final class EdgesOfTerms4Test {
         fault("script;", 1, 0);
         fault("a;", 1, 0);
         fault("z;", 1, 0);
+        fault("agez;", 1, 0);
+        fault("zage;", 1, 0);
+        fault(" ".repeat(396) + "fetc", 1, 396);
     }
 
     /** Terms 4: "numbers: digits, each as many as stand there". */
@@ -308,6 +312,24 @@ public final class EdgesOfTerms4Test {
             fault("age;" + clause + "age;", 0, -1);
         }
         fault(";".repeat(400), 1, 0);
+        fault(" ".repeat(393) + "fetch 5", 1, 400);
+        fault(" ".repeat(395) + "fetch", 1, 400);
+        fault(" ".repeat(392) + "fetch 5;", 0, -1);
+    }
+
+    /** Promise 19: what end() took from THE TAPE is no part of the text. */
+    private static void whatWasTakenFromTheTape() {
+        String[] texts = {"fetch 05;", "fetch;", "age;age;", "fetch 0 ;"};
+        int[] ends = {7, 3, 3, 8};
+        int[] places = {7, 0, 3, 8};
+        for (int i = 0; i < texts.length; i++) {
+            SpanMap x = new SpanMap();
+            Due.type(x, texts[i]);
+            x.end(ends[i]);
+            due.is("script() of the first " + ends[i] + " of '" + texts[i] + "'", x.script(), -1);
+            due.is("fault(0)", x.fault(0), 1);
+            due.is("fault(1)", x.fault(1), places[i]);
+        }
     }
 
     /** Terms 4: FAULT "1 what can't stand there": each clause with one number fewer, one more, a word, a sign. */

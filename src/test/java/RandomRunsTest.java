@@ -1,9 +1,10 @@
 import java.util.Random;
 
-/** Random runs, the same calls on SpanMap and on Plain: every answer must be the same. */
+/** Random runs of 512 calls, the same on SpanMap and on Plain: every answer must be the same. All promises. */
 public final class RandomRunsTest {
-    private static final int RUNS = 100;
-    private static final int CALLS = 220;
+    private static final int RUNS = 1000;
+    private static final int CALLS = 512;
+    private static final int QUESTIONS_AT_LAST = 120;
     private static int wrong = 0;
 
     private final Random random;
@@ -11,6 +12,7 @@ public final class RandomRunsTest {
     private final Plain y = new Plain();
     private final StringBuilder told = new StringBuilder();
     private final int flavour;
+    private int calls = 0;
 
     private RandomRunsTest(long seed) {
         random = new Random(seed);
@@ -21,12 +23,12 @@ public final class RandomRunsTest {
         int runs = args.length > 0 ? Integer.parseInt(args[0]) : RUNS;
         for (int run = 0; run < runs && wrong == 0; run++) {
             RandomRunsTest test = new RandomRunsTest(run);
-            for (int call = 0; call < CALLS && wrong == 0; call++) {
+            while (test.calls < CALLS - QUESTIONS_AT_LAST && wrong == 0) {
                 test.call();
                 test.question();
-                if (call % 40 == 39) {
-                    test.lookAtAll();
-                }
+            }
+            while (test.calls < CALLS && wrong == 0) {
+                test.question();
             }
             if (wrong != 0) {
                 System.out.println("RandomRunsTest, run " + run + ":" + test.told);
@@ -38,6 +40,7 @@ public final class RandomRunsTest {
     }
 
     private void due(String call, long got, long want) {
+        calls++;
         if (got != want) {
             wrong++;
             told.append("\n").append(call).append(" answered ").append(got).append(", due is ").append(want);
@@ -217,50 +220,55 @@ public final class RandomRunsTest {
     }
 
     private void question() {
-        int k = key(), i = or(below(33)), what = or(below(4)), v = server(), m = move(), e = or(below(40));
-        due("hot(" + i + ", " + what + ")", x.hot(i, what), y.hot(i, what));
-        due("cuts(" + e + ")", x.cuts(e), y.cuts(e));
-        due("rounds(" + e + ")", x.rounds(e), y.rounds(e));
-        due("even()", x.even(), y.even());
-        due("next(" + what + ")", x.next(what), y.next(what));
-        due("emptied(" + v + ", " + what + ")", x.emptied(v, what), y.emptied(v, what));
-        due("lasts(" + m + ")", x.lasts(m), y.lasts(m));
-        due("owned(" + e + ", " + k + ")", x.owned(e, k), y.owned(e, k));
-        due("passed(" + k + ", " + what + ")", x.passed(k, what), y.passed(k, what));
-        due("changeOf(" + e + ", " + what + ")", x.changeOf(e, what), y.changeOf(e, what));
-        due("trail(" + m + ", " + i + ")", x.trail(m, i), y.trail(m, i));
-        due("span(" + i + ", " + what + ")", x.span(i, what), y.span(i, what));
-        due("stored(" + v + ", " + k + ")", x.stored(v, k), y.stored(v, k));
-        due("lowOf(" + k + ")", x.lowOf(k), y.lowOf(k));
-        due("look(7)", x.look(7), y.look(7));
+        int pick = below(3);
+        if (pick == 0) {
+            questionOfThought();
+        } else if (pick == 1) {
+            questionOfRows();
+        } else {
+            questionOfKeys();
+        }
     }
 
-    private void lookAtAll() {
-        for (int what = -1; what < 16; what++) {
-            due("look(" + what + ")", x.look(what), y.look(what));
-            due("count(" + what + ")", x.count(what), y.count(what));
-            for (int i = -1; i < 7; i++) {
-                due("server(" + i + ", " + what + ")", x.server(i, what), y.server(i, what));
-                due("clientOf(" + i + ", " + what + ")", x.clientOf(i, what), y.clientOf(i, what));
-            }
-            for (int i = -1; i < 13; i++) {
-                due("moveOf(" + i + ", " + what + ")", x.moveOf(i, what), y.moveOf(i, what));
-            }
+    private void questionOfThought() {
+        int what = or(below(4)), v = server(), m = move(), e = or(below(40));
+        switch (below(9)) {
+            case 0: due("cuts(" + e + ")", x.cuts(e), y.cuts(e)); break;
+            case 1: due("rounds(" + e + ")", x.rounds(e), y.rounds(e)); break;
+            case 2: due("even()", x.even(), y.even()); break;
+            case 3: due("next(" + what + ")", x.next(what), y.next(what)); break;
+            case 4: due("emptied(" + v + ", " + what + ")", x.emptied(v, what), y.emptied(v, what)); break;
+            case 5: due("lasts(" + m + ")", x.lasts(m), y.lasts(m)); break;
+            case 6: due("sound()", x.sound(), y.sound()); break;
+            case 7: due("spare()", x.spare(), y.spare()); break;
+            default: due("load(" + v + ")", x.load(v), y.load(v)); break;
         }
-        for (int i = -1; i < 33; i++) {
-            for (int what = -1; what < 8; what++) {
-                due("span(" + i + ", " + what + ")", x.span(i, what), y.span(i, what));
-            }
-            due("weight(" + i + ")", x.weight(i), y.weight(i));
-            due("middleOf(" + i + ")", x.middleOf(i), y.middleOf(i));
+    }
+
+    private void questionOfRows() {
+        int i = or(below(below(3) == 0 ? 33 : 6)), what = or(below(13)), v = server(), c = client(), m = move();
+        switch (below(8)) {
+            case 0: due("look(" + what + ")", x.look(what), y.look(what)); break;
+            case 1: what = or(below(16)); due("count(" + what + ")", x.count(what), y.count(what)); break;
+            case 2: what = or(below(6)); due("server(" + v + ", " + what + ")", x.server(v, what), y.server(v, what)); break;
+            case 3: what = or(below(7)); due("clientOf(" + c + ", " + what + ")", x.clientOf(c, what), y.clientOf(c, what)); break;
+            case 4: due("moveOf(" + m + ", " + what + ")", x.moveOf(m, what), y.moveOf(m, what)); break;
+            case 5: what = or(below(8)); due("span(" + i + ", " + what + ")", x.span(i, what), y.span(i, what)); break;
+            case 6: due("weight(" + i + ")", x.weight(i), y.weight(i)); break;
+            default: due("middleOf(" + i + ")", x.middleOf(i), y.middleOf(i)); break;
         }
-        due("sound()", x.sound(), y.sound());
-        due("spare()", x.spare(), y.spare());
-        for (int server = -1; server < 7; server++) {
-            due("load(" + server + ")", x.load(server), y.load(server));
-            for (int key = -1; key < 1001; key += 1) {
-                due("stored(" + server + ", " + key + ")", x.stored(server, key), y.stored(server, key));
-            }
+    }
+
+    private void questionOfKeys() {
+        int k = key(), i = or(below(33)), what = or(below(4)), v = server(), m = move(), e = or(below(40));
+        switch (below(8)) {
+            case 0: due("hot(" + i + ", " + what + ")", x.hot(i, what), y.hot(i, what)); break;
+            case 1: due("owned(" + e + ", " + k + ")", x.owned(e, k), y.owned(e, k)); break;
+            case 2: due("passed(" + k + ", " + what + ")", x.passed(k, what), y.passed(k, what)); break;
+            case 3: due("changeOf(" + e + ", " + what + ")", x.changeOf(e, what), y.changeOf(e, what)); break;
+            case 4: due("trail(" + m + ", " + i + ")", x.trail(m, i), y.trail(m, i)); break;
+            case 5: due("lowOf(" + k + ")", x.lowOf(k), y.lowOf(k)); break;
+            default: due("stored(" + v + ", " + k + ")", x.stored(v, k), y.stored(v, k)); break;
         }
     }
 }

@@ -23,7 +23,7 @@ public final class RoomTest {
         SpanMap x = new SpanMap();
         x.fetch(0);
         x.split(0, 500);
-        for (int i = 0; i < 255; i++) {
+        for (int i = 0; i < 84; i++) {
             x.feed(0x73706c69, 0x74302035, 0x3b6a6f69, 0x6e303b20, 0x6167653b);
             x.script();
             x.age();
